@@ -50,7 +50,7 @@ public final class ModelRuns {
 
         private boolean prepare() {
             boolean same = true;
-            int objects = random.nextInt(13);
+            int objects = isDense() ? 12 : random.nextInt(13);
             for (int i = 0; same && i < objects; i++) {
                 same = due("object()", real.object(), model.object());
                 for (int field = 0; same && field < 4; field++) {
@@ -58,11 +58,16 @@ public final class ModelRuns {
                     same = due("set(" + i + "," + field + "," + v + ")", real.set(i, field, v), model.set(i, field, v));
                 }
             }
-            int users = random.nextInt(4) + (seed % 5 == 0 ? 0 : 1);
+            int users = isDense() ? 1 : random.nextInt(4) + (seed % 5 == 0 ? 0 : 1);
             for (int i = 0; same && i < users; i++) {
                 same = due("user()", real.user(), model.user());
             }
             return same;
+        }
+
+        /** Every tenth run is for one user who is told much of one field: there the fractions grow. */
+        private boolean isDense() {
+            return seed % 10 == 9;
         }
 
         private boolean due(String call, long got, long want) {
@@ -80,7 +85,7 @@ public final class ModelRuns {
         }
 
         private int field() {
-            return random.nextInt(3) == 0 ? near(0, 4) : 0;
+            return random.nextInt(isDense() ? 50 : 3) == 0 ? near(0, 4) : 0;
         }
 
         private int object() {
@@ -96,7 +101,7 @@ public final class ModelRuns {
             int user = user();
             int field = field();
             int object = object();
-            int which = random.nextInt(1000);
+            int which = isDense() && random.nextInt(3) != 0 ? 460 + random.nextInt(440) : random.nextInt(1000);
             if (which < 3 && seed % 3 == 0) {
                 real.clear();
                 model.clear();
