@@ -886,7 +886,8 @@ public final class HiddenSums {
         /** The one truth that decides does so whatever the other part is, an error too. */
         private void joinTruths(int decisive) {
             int at = height - 1;
-            boolean isDecided = !errors[at] && numbers[at] == decisive || !errors[height] && numbers[height] == decisive;
+            boolean isDecided = !errors[at] && numbers[at] == decisive
+                    || !errors[height] && numbers[height] == decisive;
             errors[at] = !isDecided && (errors[at] || errors[height]);
             numbers[at] = isDecided ? decisive : TRUE - decisive;
         }
@@ -1061,8 +1062,8 @@ public final class HiddenSums {
 
         /** Euclid's way ends within 93 rounds for any two numbers of 64 bits. */
         private static long commonDivisor(long first, long second) {
-            long a = Math.abs(first);
-            long b = Math.abs(second);
+            long a = first < 0 ? -first : first;
+            long b = second < 0 ? -second : second;
             for (int round = 0; round < 100 && b != 0; round++) {
                 long rest = a % b;
                 a = b;
