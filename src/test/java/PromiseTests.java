@@ -1,12 +1,12 @@
 /** Each promise by hand: ordinary inputs, the edges that the document names, and wrong inputs. */
 public final class PromiseTests {
-    private static final int OUT = -101, LATE = -102, KEPT = -103;
+    private static final int OUT = Calls.OUT, LATE = Calls.LATE, KEPT = Calls.KEPT;
     private static final int LOW = Integer.MIN_VALUE, HIGH = Integer.MAX_VALUE;
     private static int wrong = 0;
     private static int checked = 0;
 
     private final int promise;
-    private HiddenSums x = new HiddenSums();
+    private Calls x = new Calls();
 
     private PromiseTests(int promise) {
         this.promise = promise;
@@ -58,67 +58,36 @@ public final class PromiseTests {
     }
 
     private void type(String text) {
-        x.type(0, 0);
-        for (int i = 0; i < text.length(); i++) {
-            x.type(text.charAt(i), 1);
-        }
+        x.write(text);
     }
 
     private int rule(int user, String text) {
-        type(text);
-        return x.rule(user);
+        return x.rule(user, text);
     }
 
     private int ask(int user, String text) {
-        type(text);
-        return x.ask(user);
+        return x.ask(user, text);
     }
 
     private int cursor(int user, String text) {
-        type(text);
-        return x.cursor(user);
+        return x.cursor(user, text);
     }
 
     private long value(int user, int object, int field) {
-        try {
-            return x.value(user, object, field);
-        } catch (RuntimeException e) {
-            return codeOf(e);
-        }
+        return x.value(user, object, field);
     }
 
     private long sum(int user, int field, int set) {
-        try {
-            return x.sum(user, field, set);
-        } catch (RuntimeException e) {
-            return codeOf(e);
-        }
-    }
-
-    private static long codeOf(RuntimeException e) {
-        return e.getClass() == IndexOutOfBoundsException.class ? OUT
-                : e.getClass() == IllegalStateException.class ? LATE
-                : e.getClass() == IllegalArgumentException.class ? KEPT : -104;
+        return x.sum(user, field, set);
     }
 
     /** Objects with these values in FIELD a, and in FIELD b their numbers; users who see all. */
     private void world(int users, int... values) {
-        x = new HiddenSums();
-        for (int i = 0; i < values.length; i++) {
-            x.object();
-            x.set(i, 0, values[i]);
-            x.set(i, 1, i);
-        }
-        for (int i = 0; i < users; i++) {
-            x.user();
-            rule(i, "true");
-        }
+        x = Calls.with(users, values);
     }
 
     private void fillAudit() {
-        for (int i = x.told(3); i < 150; i++) {
-            x.cell(0, 0, 0, 0);
-        }
+        x.fillAudit(150);
     }
 
     private static String repeat(String text, int times) {
@@ -230,7 +199,7 @@ public final class PromiseTests {
         x.object();
         due("300 bytes are a text", x.rule(0), 1);
 
-        x = new HiddenSums();
+        x = new Calls();
         x.user();
         x.object();
         x.type(0x61L, 1);
@@ -573,7 +542,7 @@ public final class PromiseTests {
         due("the audit is full", sum(0, 0, 15), LATE);
         due("no set ahead of full", sum(0, 0, 16), OUT);
         due("as before", x.rows(0, 0), 3);
-        x = new HiddenSums();
+        x = new Calls();
         x.user();
         due("no objects", sum(0, 0, 1), OUT);
         world(1, 1000, 1000, 1000, 1000, 1000, 1000, 1000, 1000, 1000, 1000, 1000, 1000);
