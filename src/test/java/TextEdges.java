@@ -138,6 +138,12 @@ public final class TextEdges extends Edges {
         }
     }
 
+    private static void areFalse(String... texts) {
+        for (String text : texts) {
+            truth(text, FALSE, 7, 0, 1000, -1000);
+        }
+    }
+
     private static void areErrors(String... texts) {
         for (String text : texts) {
             truth(text, ERROR, 7, 0, 1000, -1000);
@@ -419,6 +425,11 @@ public final class TextEdges extends Edges {
             fault("true and " + word, 1, 9);
             fault("true " + word + " true", 1, 5);
         }
+        for (char c = 'a'; c <= 'z'; c++) {
+            fault("a" + c, 1, 0);
+            fault(c + "d<1", 1, 0);
+            fault("true" + c, 1, 0);
+        }
         fault("nota<1", 1, 0);
         fault("true anda<1", 1, 5);
         fault("True", 1, 0);
@@ -589,6 +600,8 @@ public final class TextEdges extends Edges {
         right("-".repeat(57) + "1=1");
         right("1=" + "-".repeat(57) + "1");
         right("true or true and true or true and true");
+        areTrue("27=-1" + "+1".repeat(28), "-1" + "+1".repeat(28) + "=27");
+        areFalse("28=-1" + "+1".repeat(28), "-1" + "+1".repeat(28) + "=28");
         areTrue("1" + "+1".repeat(27) + "=28", "1" + "*1".repeat(27) + "=1", "-".repeat(56) + "1=1", "-".repeat(55) + "1=-1");
         truth("1=2" + " or 1=2".repeat(13) + " or 1=1", TRUE);
         truth("1=1" + " and 1=1".repeat(13) + " and 1=2", FALSE);
@@ -761,6 +774,8 @@ public final class TextEdges extends Edges {
     }
 
     private static void comparisons() {
+        areFalse("1=1+1", "2<1+1", "2>1+1", "5=1+1", "1=2-2", "3<4-2", "3>4-1", "1=1*2", "2<1*2", "2>1*2", "2=2/2", "1+1=1", "1+1<2", "1+1>2", "4-1=1");
+        areTrue("2=1+1", "1<1+1", "3>1+1", "0=2-2", "1<4-2", "4>4-1", "2=1*2", "1<1*2", "3>1*2", "1=2/2", "1+1=2", "1+1<3", "1+1>1", "4-1=3");
         truth("a<b", TRUE, -1000, 1000);
         truth("a<b", FALSE, 1000, -1000);
         truth("a<b", FALSE, 5, 5);
@@ -792,6 +807,8 @@ public final class TextEdges extends Edges {
         truth("false", FALSE);
         truth("not 1/0=1", ERROR);
         truth("not not 1/0=1", ERROR);
+        areTrue("not 5=6", "not 3>5", "not 5<3", "not 2+2=5", "not 5=2+2", "not 3>2*2", "not 3*2<2");
+        areFalse("not 5=5", "not 3<5", "not 5>3", "not 2+2=4", "not 4=2+2", "not 3<2*2", "not 3*2>2");
         truth("not not true", TRUE);
         truth("not not not true", FALSE);
         truth("not(1/0=1)", ERROR);
@@ -879,6 +896,7 @@ public final class TextEdges extends Edges {
         edge(6, "NONE (the tape stays)", TextEdges::ruleOfNobody);
         edge(6, "a RULE is no QUERY: CLOSED FIELDS, a full AUDIT and what was TOLD do not matter", TextEdges::ruleAtAnyTime);
         edge(6, "a RULE of one user is of that user alone", TextEdges::ruleOfOneUser);
+        edge(6, "the tape becomes a RULE: nothing of texts before it", TextEdges::eachTextByItself);
     }
 
     private static void ruleCounts() {
@@ -954,5 +972,30 @@ public final class TextEdges extends Edges {
         for (int user = 0; user < 4; user++) {
             due("seen(" + user + ", 0)", x.seen(user, 0), user);
         }
+    }
+
+    /** What a fault left open or waiting must not bear on the texts behind it. */
+    private static void eachTextByItself() {
+        String[] faulty = {"(".repeat(12), "not ".repeat(12), "not(".repeat(6) + "true", "(((a<1+2*", "1+2*-", "((true)", "true or not", "(((", "a <", SIXTY + "+"};
+        Calls x = Calls.with(1, 5);
+        for (String text : faulty) {
+            due("rule of [" + text + "]", x.rule(0, text) < 0 ? 1 : 0, 1);
+            due("a text with a ) too many", x.rule(0, "true)"), FAULT_2);
+            due("place()", x.place(), 4);
+            due("a right one", x.rule(0, "true"), 1);
+            due("one that is FALSE", x.rule(0, "a=1+2*3"), 0);
+        }
+        for (int i = 0; i < 12; i++) {
+            x.rule(0, "(".repeat(12));
+        }
+        due("12 brackets", x.rule(0, "(".repeat(12) + "a=5" + ")".repeat(12)), 1);
+        due("12 nots", x.rule(0, "not ".repeat(12) + "a=5"), 1);
+        due("60 tokens", x.rule(0, "a=-24" + "+1".repeat(28)), 0);
+        due("60 tokens", x.rule(0, "a=-23" + "+1".repeat(28)), 1);
+        due("FIELDS of the text before", x.rule(0, "a=5 and b=0 and c=0 and d=0"), 1);
+        x.close(0, 15);
+        due("are not this one's", x.ask(0, "true"), 1);
+        due("nor are those of a FAULT", x.ask(0, "a=5 ?"), FAULT_1);
+        due("a text without FIELDS", x.ask(0, "1=1"), 1);
     }
 }

@@ -528,6 +528,7 @@ public final class ToldEdges extends Edges {
         edge(19, "the object itself is free, if it is no PIVOT", ToldEdges::freeItself);
         edge(19, "else the first one behind it for which its row is not 0", ToldEdges::freeBehindPivot);
         edge(19, "other objects that are no PIVOTS have 0", ToldEdges::othersHaveZero);
+        edge(19, "a PIVOT has what the free one has in its row, with the other sign", ToldEdges::otherSign);
         edge(19, "multiplied by the least number above 0 that makes them whole", ToldEdges::leastNumber);
         edge(19, "twelve objects, eleven rows", ToldEdges::largestWorld);
         edge(19, "STATE: it is SOLVED", ToldEdges::worldOfSolved);
@@ -582,6 +583,24 @@ public final class ToldEdges extends Edges {
         worldIs(y, 0, -1, 1, -1, 2, 1, 0);
         worldIs(y, 3, -1, 1, -1, 2, 1, 0);
         worldIs(y, 5, -1, 1, -1, 2, 0, 1);
+    }
+
+    private static void otherSign() {
+        Calls x = Calls.with(1, 1, 2, 3, 4);
+        tell(x, 0, 5, 6, 9);
+        for (int object = 0; object < 4; object++) {
+            worldIs(x, object, -1, -1, 1, 1);
+        }
+        Calls y = Calls.with(1, 1, 2, 3, 4);
+        tell(y, 0, 9, 6, 5);
+        for (int object = 0; object < 4; object++) {
+            worldIs(y, object, -1, -1, 1, 1);
+        }
+        Calls z = Calls.with(1, 1, 2, 3, 4);
+        tell(z, 0, 7, 11);
+        worldIs(z, 0, -1, 1, 0, 0);
+        worldIs(z, 2, -1, 0, 1, 1);
+        worldIs(z, 3, -1, 0, 1, 1);
     }
 
     /** A half for object 7 and a third for object 8: each world has its own least number. */
