@@ -23,6 +23,7 @@ public final class RightsEdges extends Edges {
     private static void objects() {
         edge(1, "no objects, no users, an empty tape", RightsEdges::newObject);
         edge(1, "a new object is nothing of another", RightsEdges::apart);
+        edge(1, "an object is used for at most 512 calls after it has been made", RightsEdges::lastCalls);
         edge(2, "OBJECTS 0, 1, .. (12 at most); FULL", RightsEdges::twelveObjects);
         edge(2, "as soon as anybody was TOLD anything no object comes (STATE)", RightsEdges::noObjectOnceTold);
         edge(2, "other asks tell none", RightsEdges::objectsAsLongAsNoneWasTold);
@@ -73,6 +74,22 @@ public final class RightsEdges extends Edges {
         due("the other's tape", other.told(2), 4);
         due("the other's place()", other.place(), 1);
         isNew(new Calls());
+    }
+
+    /** Calls 1 to 19 make what there is, and the last six of 512 use it. */
+    private static void lastCalls() {
+        Calls x = Calls.with(2, 5, 6, 7);
+        x.write("a>5");
+        int made = 3 * 3 + 2 * 4 + 2;
+        for (int i = made; i < 506; i++) {
+            due("told(0)", x.told(0), 3);
+        }
+        due("call 507: ask", x.ask(0), 2);
+        due("call 508: found", x.found(1), 2);
+        due("call 509: sum", x.sum(0, 0, 6), 13);
+        due("call 510: value", x.value(0, 1, 0), 6);
+        due("call 511: solved", x.solved(0, 0, 2), 1);
+        due("call 512: told", x.told(3), 3);
     }
 
     private static void twelveObjects() {

@@ -796,6 +796,7 @@ public final class TextEdges extends Edges {
         edge(6, "not: TRUE and FALSE change places", TextEdges::nots);
         edge(6, "or: TRUE if one is, else an ERROR if one is, else FALSE", TextEdges::ors);
         edge(6, "and: FALSE if one is, else an ERROR if one is, else TRUE", TextEdges::ands);
+        edge(6, "all parts are looked at", TextEdges::allParts);
         edge(6, "ANY: ALL { or ALL }, ALL: ONE { and ONE }", TextEdges::andAheadOfOr);
         edge(9, "TRUE, FALSE, or an ERROR, each for its object", TextEdges::eachForItsObject);
     }
@@ -863,6 +864,22 @@ public final class TextEdges extends Edges {
         for (int i = 0; i < 27; i++) {
             truth(TRUTHS[i / 9] + " and " + TRUTHS[i / 3 % 3] + " and " + TRUTHS[i % 3], both(i / 9, i / 3 % 3, i % 3));
         }
+    }
+
+    /** The part that decides stands last, and an ERROR does so where none decides. */
+    private static void allParts() {
+        truth("1=2" + " or 1=2".repeat(12) + " or 1/0=1", ERROR);
+        truth("1/0=1" + " or 1=2".repeat(12) + " or 1=1", TRUE);
+        truth("1=1" + " and 1=1".repeat(12) + " and 1/0=1", ERROR);
+        truth("1/0=1" + " and 1=1".repeat(12) + " and 1=2", FALSE);
+        truth("1=1 or 1/0=1 and 1/0=1", TRUE);
+        truth("1=2 and 1/0=1 or 1/0=1", ERROR);
+        truth("(1=2 or 1/0=1)and 1=2", FALSE);
+        truth("1=1 or(not 1/0=1)", TRUE);
+        truth("a/b=1 or b=0", TRUE, 7, 0);
+        truth("b=0 or a/b=1", TRUE, 7, 0);
+        truth("not b=0 and a/b=1", FALSE, 7, 0);
+        truth("b=0 and a/b=1", ERROR, 7, 0);
     }
 
     private static void andAheadOfOr() {
@@ -988,6 +1005,7 @@ public final class TextEdges extends Edges {
         for (int i = 0; i < 12; i++) {
             x.rule(0, "(".repeat(12));
         }
+        due("one that is FALSE", x.rule(0, "a=6"), 0);
         due("12 brackets", x.rule(0, "(".repeat(12) + "a=5" + ")".repeat(12)), 1);
         due("12 nots", x.rule(0, "not ".repeat(12) + "a=5"), 1);
         due("60 tokens", x.rule(0, "a=-24" + "+1".repeat(28)), 0);
