@@ -200,10 +200,10 @@ public final class HiddenSums {
         }
         int bit = 1 << object;
         if ((hiddenFrom(users[user], field) & bit) != 0 || !tell(users[user], field, bit)) {
-            entries.append(user, BY_VALUE, object, field, DID_HIDE);
+            entries.enter(user, BY_VALUE, object, field, DID_HIDE);
             throw new IllegalArgumentException("hidden, or kept back");
         }
-        entries.append(user, BY_VALUE, object, field, DID_TELL);
+        entries.enter(user, BY_VALUE, object, field, DID_TELL);
         return values[object * FIELDS + field];
     }
 
@@ -216,10 +216,10 @@ public final class HiddenSums {
             throw new IllegalStateException("the audit is full");
         }
         if (!tell(users[user], field, set)) {
-            entries.append(user, BY_SUM, field, set, DID_HIDE);
+            entries.enter(user, BY_SUM, field, set, DID_HIDE);
             throw new IllegalArgumentException("kept back");
         }
-        entries.append(user, BY_SUM, field, set, DID_TELL);
+        entries.enter(user, BY_SUM, field, set, DID_TELL);
         return total(field, set);
     }
 
@@ -234,10 +234,10 @@ public final class HiddenSums {
             return FULL;
         }
         if (users[user].hasClosed(1 << field)) {
-            entries.append(user, BY_CELL, field, low, DID_BAR);
+            entries.enter(user, BY_CELL, field, low, DID_BAR);
             return BARRED;
         }
-        entries.append(user, BY_CELL, field, low, DID_TELL);
+        entries.enter(user, BY_CELL, field, low, DID_TELL);
         return countBetween(users[user], field, low, high);
     }
 
@@ -268,10 +268,10 @@ public final class HiddenSums {
             return FULL;
         }
         if (asker.hasClosed(asker.query.fieldMask)) {
-            entries.append(user, BY_STEP, 0, 0, DID_BAR);
+            entries.enter(user, BY_STEP, 0, 0, DID_BAR);
             return BARRED;
         }
-        entries.append(user, BY_STEP, 0, 0, DID_TELL);
+        entries.enter(user, BY_STEP, 0, 0, DID_TELL);
         return moveCursor(asker);
     }
 
@@ -377,14 +377,14 @@ public final class HiddenSums {
     private int takeQuery(int asker, int kind) {
         int fault = takeTape();
         if (fault != 0) {
-            entries.append(asker, kind, 0, 0, DID_FAULT);
+            entries.enter(asker, kind, 0, 0, DID_FAULT);
             return FAULT_BASE - fault;
         }
         if (users[asker].hasClosed(reader.text.fieldMask)) {
-            entries.append(asker, kind, 0, 0, DID_BAR);
+            entries.enter(asker, kind, 0, 0, DID_BAR);
             return BARRED;
         }
-        entries.append(asker, kind, 0, 0, DID_TELL);
+        entries.enter(asker, kind, 0, 0, DID_TELL);
         return 0;
     }
 
@@ -511,7 +511,7 @@ public final class HiddenSums {
             return count >= MAX_AUDIT;
         }
 
-        void append(int asker, int kind, int first, int second, int answer) {
+        void enter(int asker, int kind, int first, int second, int answer) {
             if (isFull()) {
                 return;
             }
