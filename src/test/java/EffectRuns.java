@@ -88,7 +88,8 @@ public final class EffectRuns {
         x.rule(0, "a>2 and 6/b>0 or a=2");
         x.rule(1, "not a=4");
         x.rule(2, "true");
-        x.cursor(0, "b>3 and not b=5 or b=0");
+        x.cursor(0, "b>3");
+        x.step(0);
         x.step(0);
         x.cursor(1, "a<4 or d=0");
         x.step(1);
@@ -187,6 +188,10 @@ public final class EffectRuns {
             CALLS.put("ask(" + user + ")", x -> x.ask(user));
             CALLS.put("cursor(" + user + ")", x -> x.cursor(user));
             CALLS.put("step(" + user + ")", x -> x.step(user));
+            CALLS.put("close(" + user + ", 11), step(" + user + ")", x -> {
+                x.close(user, 11);
+                x.step(user);
+            });
             for (String text : texts) {
                 CALLS.put("[" + text + "] rule(" + user + ")", x -> emptied(x).rule(user, text));
                 CALLS.put("[" + text + "] ask(" + user + ")", x -> emptied(x).ask(user, text));

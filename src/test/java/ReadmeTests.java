@@ -1,3 +1,4 @@
+import java.lang.reflect.Field;
 import java.net.URL;
 import java.net.URLClassLoader;
 import java.nio.file.Files;
@@ -19,6 +20,7 @@ public final class ReadmeTests {
         String readme = Files.readString(Path.of("README.md"));
         examples(readme);
         table(readme);
+        constants(readme);
         System.out.println(wrong == 0 ? "README.md says what is so" : wrong + " things in README.md are wrong");
         if (wrong != 0) {
             System.exit(1);
@@ -86,10 +88,10 @@ public final class ReadmeTests {
         }
     }
 
-    /** A row for each method of the document's face, in its order and with its parameters. */
+    /** A row for each method of the face, in the order of the class and with its parameters. */
     private static void table(String readme) throws Exception {
         List<String> face = new ArrayList<>();
-        Matcher methods = FACE.matcher(Files.readString(Path.of("../shared/DOC.md")));
+        Matcher methods = FACE.matcher(Files.readString(Path.of("src/main/java/HiddenSums.java")));
         while (methods.find()) {
             face.add(methods.group(1) + "(" + methods.group(2).replaceAll("(int|long) ", "") + ")");
         }
@@ -98,6 +100,13 @@ public final class ReadmeTests {
         while (cells.find()) {
             rows.add(cells.group(1));
         }
-        same("the calls of the document, as its table has them", face, rows);
+        same("the calls of the class, as its table has them", face, rows);
+    }
+
+    private static void constants(String readme) throws Exception {
+        for (Field f : HiddenSums.class.getFields()) {
+            String constant = "`" + f.getName() + "` " + f.get(null);
+            same(constant, readme.contains(constant), true);
+        }
     }
 }
