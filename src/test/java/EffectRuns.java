@@ -68,8 +68,13 @@ public final class EffectRuns {
         STATES.put("some were told", x -> someTold(x, 5));
         STATES.put("twelve objects, nobody was told", EffectRuns::crowded);
         STATES.put("twelve objects, some were told", x -> someTold(x, 12));
+        STATES.put("some were told, 298 bytes on the tape", EffectRuns::longTape);
         STATES.put("149 asks", x -> asked(x, 149));
         STATES.put("150 asks", x -> asked(x, 150));
+        STATES.put("150 asks, nobody was told", x -> {
+            nobodyTold(x, 5);
+            askUpTo(x, 150);
+        });
         STATES.put("cleared", EffectRuns::cleared);
     }
 
@@ -122,8 +127,17 @@ public final class EffectRuns {
         x.write("b=4 or d=0" + " ".repeat(286), 0);
     }
 
+    private static void longTape(Both x) {
+        someTold(x, 5);
+        x.write(" ".repeat(298 - x.model.tape.size()), 0);
+    }
+
     private static void asked(Both x, int entries) {
         someTold(x, 5);
+        askUpTo(x, entries);
+    }
+
+    private static void askUpTo(Both x, int entries) {
         for (int i = x.model.audit.size(); i < entries; i++) {
             x.cell(2, 1, i, i);
         }
